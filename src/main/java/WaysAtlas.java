@@ -26,8 +26,7 @@ public final class WaysAtlas {
     private static final int NAME = 3, KIND_NAME = 3, METHOD_NAME = 4, VARIABLE_NAME = 5, ROW_NAME = 6;
     private static final String NAMES = "kmvr";
     private static final String SIGNS = "+-*/%()[]{}=<>,;";
-    private static final String WORDS = "kind under method mark call row none return if else loop leave next "
-            + "throw wrap again guard with catch finally size ";
+    private static final String WORDS = "kind under method mark call row none return if else loop leave next throw wrap again guard with catch finally size ";
     private static final int WORD = 128, KIND_WORD = 128, UNDER_WORD = 129, METHOD_WORD = 130, MARK_WORD = 131,
             CALL_WORD = 132, ROW_WORD = 133, NONE_WORD = 134, RETURN_WORD = 135, IF_WORD = 136, ELSE_WORD = 137,
             LOOP_WORD = 138, LEAVE_WORD = 139, NEXT_WORD = 140, THROW_WORD = 141, WRAP_WORD = 142,
@@ -60,7 +59,7 @@ public final class WaysAtlas {
             NOW_WIDTH = 12;
     // What an activation keeps for each level of its blocks.
     private static final int TURNS_LEFT = 0, CAUGHT = 1, PENDING = 2, PENDING_WAY = 3, BACK = 4, KEPT = 5,
-            PHASE = 6, RESOURCES = 7, SLOT_WIDTH = 10;
+            PHASE = 6, OPENED = 7, RESOURCES = 8, SLOT_WIDTH = 11;
     // Columns of an entry of the plan, and of a passing.
     private static final int AT_STATEMENT = 0, AT_PART = 1, AT_TIME = 2, PLANNED_KIND = 3;
 
@@ -91,10 +90,10 @@ public final class WaysAtlas {
     private final Table plan;
     private final Table alone;
     private final Table outcomes;
-    private final Record codeRun;
-    private final Record treeRun;
-    private final Record trial;
-    private final Record secondTrial;
+    private final RunRecord codeRun;
+    private final RunRecord treeRun;
+    private final RunRecord trial;
+    private final RunRecord secondTrial;
     private Program present;
     private Program spare;
     private int fault;
@@ -109,10 +108,10 @@ public final class WaysAtlas {
         plan = new Table(MOST_PLANNED, 4);
         alone = new Table(1, 4);
         outcomes = new Table(MOST_PASSINGS + 1, 4);
-        codeRun = new Record();
-        treeRun = new Record();
-        trial = new Record();
-        secondTrial = new Record();
+        codeRun = new RunRecord();
+        treeRun = new RunRecord();
+        trial = new RunRecord();
+        secondTrial = new RunRecord();
         world = new World(present, plan, codeRun);
         walker = new Walker(world);
         machine = new Machine(world, coder.code, coder.handlers);
@@ -275,11 +274,11 @@ public final class WaysAtlas {
         return which < 0 || which > 1 || chosen(which).ended == NONE;
     }
 
-    private Record chosen(int which) {
+    private RunRecord chosen(int which) {
         return which == 1 ? treeRun : codeRun;
     }
 
-    private int perform(boolean tree, Record record, Table entries, int method, int a, int b, int steps) {
+    private int perform(boolean tree, RunRecord record, Table entries, int method, int a, int b, int steps) {
         world.prepare(present, entries, record, steps);
         if (tree) {
             walker.walk(method, a, b);
@@ -598,20 +597,16 @@ public final class WaysAtlas {
         }
 
         void read(Program target) {
-            program = target;
-            program.reset();
-            callPlaces.fill(MOST_STATEMENTS, NONE);
-            fault = 0;
-            faultPlace = 0;
-            lesserPlace = NONE;
-            at = -1;
-            advance();
+            start(target);
             for (int i = 0; i <= MOST_KINDS && token == KIND_WORD; i++) {
                 readKind();
             }
-            readMethod();
-            for (int i = 0; i <= MOST_METHODS && token == METHOD_WORD; i++) {
-                readMethod();
+            boolean more = true;
+            for (int i = 0; i <= MOST_METHODS && more; i++) {
+                int method = beginMethod();
+                program.methods.set(method, METHOD_BLOCK, readStatements(NONE, 0));
+                expect('}');
+                more = token == METHOD_WORD;
             }
             if (token != END) {
                 fail(1);
@@ -621,6 +616,17 @@ public final class WaysAtlas {
                 fault = 3;
                 faultPlace = lesserPlace;
             }
+        }
+
+        private void start(Program target) {
+            program = target;
+            program.reset();
+            callPlaces.fill(MOST_STATEMENTS, NONE);
+            fault = 0;
+            faultPlace = 0;
+            lesserPlace = NONE;
+            at = -1;
+            advance();
         }
 
         private void advance() {
@@ -678,18 +684,15 @@ public final class WaysAtlas {
             return kind;
         }
 
-        private void readMethod() {
+        private int beginMethod() {
             if (token == METHOD_WORD && program.methods.rows >= MOST_METHODS) {
                 fail(2);
-                return;
             }
             expect(METHOD_WORD);
             expect('{');
             loops.reset();
             caughtLevels.reset();
-            int method = program.methods.add();
-            program.methods.set(method, METHOD_BLOCK, readStatements(NONE, 0));
-            expect('}');
+            return program.methods.add();
         }
 
         /** Methods may be called before they are declared. */
@@ -731,12 +734,31 @@ public final class WaysAtlas {
             program.statements.set(s, INSIDE, inside);
             program.statements.set(s, LEVEL, level);
             switch (token) {
-                case IF_WORD: readIf(s, level); break;
-                case LOOP_WORD: readLoop(s, level); break;
-                case GUARD_WORD: readGuard(s, level); break;
-                case WITH_WORD: readGuard(s, level); break;
-                default: readPlain(s); expect(';'); break;
+                case IF_WORD: readIf(s, level); return s;
+                case LOOP_WORD: readLoop(s, level); return s;
+                case GUARD_WORD: readGuard(s, level); return s;
+                case WITH_WORD: readGuard(s, level); return s;
+                case VARIABLE_NAME:
+                    int variable = value;
+                    advance();
+                    expect('=');
+                    if (token == CALL_WORD) {
+                        readCall(s, variable);
+                    } else {
+                        readSet(s, variable);
+                    }
+                    break;
+                case ROW_NAME: readRow(s); break;
+                case CALL_WORD: readCall(s, NONE); break;
+                case LEAVE_WORD: readJump(s, DO_LEAVE); break;
+                case NEXT_WORD: readJump(s, DO_NEXT); break;
+                case MARK_WORD: readMark(s); break;
+                case RETURN_WORD: readReturn(s); break;
+                case THROW_WORD: readThrow(s, DO_THROW); break;
+                case WRAP_WORD: readThrow(s, DO_WRAP); break;
+                default: readThrow(s, DO_AGAIN); break;
             }
+            expect(';');
             return s;
         }
 
@@ -768,14 +790,14 @@ public final class WaysAtlas {
         private void readIf(int s, int level) {
             program.statements.set(s, TYPE, DO_IF);
             advance();
-            program.statements.set(s, FIRST_SUM, readSum(0));
+            program.statements.set(s, FIRST_SUM, readList(0, true));
             program.statements.set(s, A, token);
             if (token == '=' || token == '<' || token == '>') {
                 advance();
             } else {
                 fail(1);
             }
-            program.statements.set(s, SECOND_SUM, readSum(0));
+            program.statements.set(s, SECOND_SUM, readList(0, true));
             program.statements.set(s, BLOCK, readBlock(s, level));
             if (token == ELSE_WORD) {
                 advance();
@@ -786,7 +808,7 @@ public final class WaysAtlas {
         private void readLoop(int s, int level) {
             program.statements.set(s, TYPE, DO_LOOP);
             advance();
-            program.statements.set(s, FIRST_SUM, readSum(0));
+            program.statements.set(s, FIRST_SUM, readList(0, true));
             int loop = loops.add();
             loops.set(loop, 0, s);
             program.statements.set(s, BLOCK, readBlock(s, level));
@@ -845,46 +867,29 @@ public final class WaysAtlas {
             return c;
         }
 
-        private void readPlain(int s) {
-            Table statements = program.statements;
-            switch (token) {
-                case VARIABLE_NAME: readSet(s); break;
-                case ROW_NAME: readRow(s); break;
-                case CALL_WORD: readCall(s, NONE); break;
-                case LEAVE_WORD: readJump(s, DO_LEAVE); break;
-                case NEXT_WORD: readJump(s, DO_NEXT); break;
-                case MARK_WORD:
-                    statements.set(s, TYPE, DO_MARK);
-                    advance();
-                    statements.set(s, A, value);
-                    expect(NUMBER);
-                    break;
-                case RETURN_WORD:
-                    statements.set(s, TYPE, DO_RETURN);
-                    advance();
-                    statements.set(s, FIRST_SUM, readSum(0));
-                    break;
-                case THROW_WORD:
-                    statements.set(s, TYPE, DO_THROW);
-                    advance();
-                    statements.set(s, A, readKindName());
-                    break;
-                case WRAP_WORD:
-                    readCaught(s, DO_WRAP);
-                    statements.set(s, A, readKindName());
-                    break;
-                case AGAIN_WORD: readCaught(s, DO_AGAIN); break;
-                default: fail(1); break;
-            }
+        private void readMark(int s) {
+            program.statements.set(s, TYPE, DO_MARK);
+            advance();
+            program.statements.set(s, A, value);
+            expect(NUMBER);
         }
 
-        private void readCaught(int s, int type) {
-            if (caughtLevels.rows == 0) {
+        private void readReturn(int s) {
+            program.statements.set(s, TYPE, DO_RETURN);
+            advance();
+            program.statements.set(s, FIRST_SUM, readList(0, true));
+        }
+
+        private void readThrow(int s, int type) {
+            if (type != DO_THROW && caughtLevels.rows == 0) {
                 failLesser(place);
             }
             program.statements.set(s, TYPE, type);
             program.statements.set(s, B, caughtLevels.get(caughtLevels.rows - 1, 0));
             advance();
+            if (type != DO_AGAIN) {
+                program.statements.set(s, A, readKindName());
+            }
         }
 
         private void readJump(int s, int type) {
@@ -905,23 +910,16 @@ public final class WaysAtlas {
             callPlaces.set(s, 0, place);
             expect(METHOD_NAME);
             expect('(');
-            program.statements.set(s, FIRST_SUM, readSum(0));
+            program.statements.set(s, FIRST_SUM, readList(0, true));
             expect(',');
-            program.statements.set(s, SECOND_SUM, readSum(0));
+            program.statements.set(s, SECOND_SUM, readList(0, true));
             expect(')');
         }
 
-        private void readSet(int s) {
-            int variable = value;
-            advance();
-            expect('=');
-            if (token == CALL_WORD) {
-                readCall(s, variable);
-            } else {
-                program.statements.set(s, TYPE, DO_SET);
-                program.statements.set(s, A, variable);
-                program.statements.set(s, FIRST_SUM, readSum(0));
-            }
+        private void readSet(int s, int variable) {
+            program.statements.set(s, TYPE, DO_SET);
+            program.statements.set(s, A, variable);
+            program.statements.set(s, FIRST_SUM, readList(0, true));
         }
 
         private void readRow(int s) {
@@ -931,17 +929,17 @@ public final class WaysAtlas {
             if (token == '[') {
                 statements.set(s, TYPE, DO_STORE);
                 advance();
-                statements.set(s, FIRST_SUM, readSum(0));
+                statements.set(s, FIRST_SUM, readList(0, true));
                 expect(']');
                 expect('=');
-                statements.set(s, SECOND_SUM, readSum(0));
+                statements.set(s, SECOND_SUM, readList(0, true));
                 return;
             }
             expect('=');
             if (token == ROW_WORD) {
                 statements.set(s, TYPE, DO_NEW);
                 advance();
-                statements.set(s, FIRST_SUM, readSum(0));
+                statements.set(s, FIRST_SUM, readList(0, true));
             } else if (token == NONE_WORD) {
                 statements.set(s, TYPE, DO_NO_ROW);
                 advance();
@@ -955,13 +953,12 @@ public final class WaysAtlas {
             int row = value;
             if (isNoRow()) {
                 fail(2);
+            } else if (token != ROW_NAME) {
+                fail(1);
+            } else {
+                advance();
             }
-            expect(ROW_NAME);
             return row;
-        }
-
-        private int readSum(int nested) {
-            return readList(nested, true);
         }
 
         /** A sum is a list of terms, a term a list of factors; a list of one is this one itself. */
@@ -1456,7 +1453,7 @@ public final class WaysAtlas {
     }
 
     /** What can be asked for of a run. */
-    private static final class Record {
+    private static final class RunRecord {
         final Table tape;
         final Table failures;
         final Table activations;
@@ -1470,7 +1467,7 @@ public final class WaysAtlas {
         int deepest;
         int steps;
 
-        Record() {
+        RunRecord() {
             tape = new Table(MOST_STEPS, 1);
             // Each exception, and each call, has a step of its own.
             failures = new Table(MOST_STEPS, FAILURE_WIDTH);
@@ -1523,7 +1520,7 @@ public final class WaysAtlas {
             return id == NONE ? NONE : 1000 * activations.get(id, CALLED_METHOD) + statement;
         }
 
-        boolean agrees(Record other) {
+        boolean agrees(RunRecord other) {
             for (int what = 0; what <= 9; what++) {
                 if (property(what) != other.property(what)) {
                     return false;
@@ -1542,13 +1539,13 @@ public final class WaysAtlas {
         private final Table arrays;
         private final Table passed;
         Program program;
-        Record record;
+        RunRecord record;
         private Table plan;
         private int limit;
         int thrown;
         boolean notesPassings;
 
-        World(Program program, Table plan, Record record) {
+        World(Program program, Table plan, RunRecord record) {
             this.program = program;
             this.plan = plan;
             this.record = record;
@@ -1560,7 +1557,7 @@ public final class WaysAtlas {
             thrown = NONE;
         }
 
-        void prepare(Program itsProgram, Table itsPlan, Record itsRecord, int steps) {
+        void prepare(Program itsProgram, Table itsPlan, RunRecord itsRecord, int steps) {
             program = itsProgram;
             plan = itsPlan;
             record = itsRecord;
@@ -1637,12 +1634,13 @@ public final class WaysAtlas {
         }
 
         void raise(int kind, int cause) {
+            int top = activations.rows - 1;
             int e = record.failures.add();
             record.failures.set(e, FAILED_KIND, kind);
             record.failures.set(e, CAUSE, cause);
-            record.failures.set(e, FAILED_STATEMENT, now(NOW_STATEMENT));
+            record.failures.set(e, FAILED_STATEMENT, activations.get(top, NOW_STATEMENT));
             record.failures.set(e, FAILED_DEPTH, activations.rows);
-            record.failures.set(e, FAILED_ACTIVATION, now(NOW_ID));
+            record.failures.set(e, FAILED_ACTIVATION, activations.get(top, NOW_ID));
             thrown = e;
         }
 
@@ -1658,7 +1656,8 @@ public final class WaysAtlas {
             record.failures.set(last, NEXT_SUPPRESSED, e);
         }
 
-        private void pass(int statement, int part) {
+        /** Answers the kind of the exception that is planned for this passing, or NONE. */
+        private int pass(int statement, int part) {
             int time = passed.get(statement, part) + 1;
             passed.set(statement, part, time);
             if (notesPassings) {
@@ -1670,24 +1669,28 @@ public final class WaysAtlas {
             for (int i = 0; i < plan.rows; i++) {
                 if (plan.get(i, AT_STATEMENT) == statement && plan.get(i, AT_PART) == part
                         && plan.get(i, AT_TIME) == time) {
-                    raise(plan.get(i, PLANNED_KIND), NONE);
-                    return;
+                    return plan.get(i, PLANNED_KIND);
                 }
             }
+            return NONE;
         }
 
         void append(int statement, int number) {
-            pass(statement, 0);
-            if (thrown == NONE) {
+            int kind = pass(statement, 0);
+            if (kind == NONE) {
                 record.tape.set(record.tape.add(), 0, number);
+            } else {
+                raise(kind, NONE);
             }
         }
 
         void open(int statement, int k) {
-            pass(statement, 1 + k);
-            if (thrown == NONE) {
+            int kind = pass(statement, 1 + k);
+            if (kind == NONE) {
                 setSlot(program.statements.get(statement, LEVEL), RESOURCES + k, record.opened);
                 record.opened++;
+            } else {
+                raise(kind, NONE);
             }
         }
 
@@ -1696,7 +1699,10 @@ public final class WaysAtlas {
             int resource = slot(program.statements.get(statement, LEVEL), RESOURCES + k);
             record.closings.set(record.closings.add(), 0, resource);
             setNow(NOW_STATEMENT, statement);
-            pass(statement, 1 + MOST_RESOURCES + k);
+            int kind = pass(statement, 1 + MOST_RESOURCES + k);
+            if (kind != NONE) {
+                raise(kind, NONE);
+            }
         }
 
         void finish(int statement) {
@@ -1734,25 +1740,30 @@ public final class WaysAtlas {
             setNow(NOW_ROWS + row, array);
         }
 
-        /** The array of a row if it has an element at the index; otherwise an exception is thrown. */
-        private int arrayWith(int row, int index) {
-            int array = now(NOW_ROWS + row);
+        /** Answers the kind of the exception that is due for this element, or NONE if there is the element. */
+        private int lacking(int array, int index) {
             if (array == NONE) {
-                raise(KIND_NULL, NONE);
-            } else if (index < 0 || index >= arrays.get(array, 0)) {
-                raise(KIND_INDEX, NONE);
+                return KIND_NULL;
             }
-            return array;
+            return index < 0 || index >= arrays.get(array, 0) ? KIND_INDEX : NONE;
         }
 
         int element(int row, int index) {
-            int array = arrayWith(row, index);
-            return thrown == NONE ? arrays.get(array, 1 + index) : 0;
+            int array = now(NOW_ROWS + row);
+            int kind = lacking(array, index);
+            if (kind != NONE) {
+                raise(kind, NONE);
+                return 0;
+            }
+            return arrays.get(array, 1 + index);
         }
 
         void store(int row, int index, int value) {
-            int array = arrayWith(row, index);
-            if (thrown == NONE) {
+            int array = now(NOW_ROWS + row);
+            int kind = lacking(array, index);
+            if (kind != NONE) {
+                raise(kind, NONE);
+            } else {
                 arrays.set(array, 1 + index, value);
             }
         }
@@ -1770,7 +1781,8 @@ public final class WaysAtlas {
     /** Walks the tree. A block ends in a way: at its end, by a return, a jump or an exception. */
     private static final class Walker {
         private static final int AT_END = 0, BY_RETURN = 1, BY_LEAVE = 2, BY_NEXT = 3, BY_EXCEPTION = 4;
-        private static final int IN_BLOCK = 0, IN_CATCH = 1, IN_FINALLY = 2;
+        // What a guard does next when no block of it is being executed.
+        private static final int OPENING = 0, AFTER_BLOCK = 1, CLOSING = 2, AFTER_CATCH = 3, AFTER_FINALLY = 4;
 
         private final World world;
         // The next statement of the present block, or NONE if the block has ended.
@@ -1780,6 +1792,9 @@ public final class WaysAtlas {
         private int way;
         // What is returned, the loop of a jump, or the exception.
         private int value;
+        // The values of the present statement's sums.
+        private int firstSum;
+        private int secondSum;
 
         Walker(World world) {
             this.world = world;
@@ -1790,12 +1805,21 @@ public final class WaysAtlas {
         void walk(int method, int a, int b) {
             enter(method, a, b);
             for (int i = 0; i < MOST_TURNS && world.isRunning(); i++) {
+                int s = cursor == NONE ? inside : cursor;
                 if (cursor != NONE) {
-                    begin(cursor);
-                } else if (inside != NONE) {
-                    endBlock(inside);
-                } else {
+                    begin(s);
+                    if (world.isRunning() && world.thrown == NONE) {
+                        execute(s);
+                    }
+                    takeThrown();
+                } else if (inside == NONE) {
                     leave();
+                } else if (at(s, TYPE) == DO_GUARD) {
+                    endPhase(s);
+                } else if (at(s, TYPE) == DO_LOOP) {
+                    endTurn(s);
+                } else {
+                    goOn(s);
                 }
             }
         }
@@ -1848,38 +1872,43 @@ public final class WaysAtlas {
             cursor = NONE;
         }
 
-        private void begin(int s) {
-            if (!world.takeStep()) {
-                return;
-            }
-            world.setNow(NOW_STATEMENT, s);
-            cursor = at(s, NEXT);
-            int x = sum(at(s, FIRST_SUM), 0);
-            int y = sum(at(s, SECOND_SUM), 0);
-            if (world.thrown == NONE) {
-                execute(s, x, y);
-            }
+        private void takeThrown() {
             if (world.thrown != NONE) {
                 endBy(BY_EXCEPTION, world.thrown);
                 world.thrown = NONE;
             }
         }
 
-        private void execute(int s, int x, int y) {
+        private void begin(int s) {
+            if (world.takeStep()) {
+                world.setNow(NOW_STATEMENT, s);
+                firstSum = sum(at(s, FIRST_SUM), 0);
+                secondSum = sum(at(s, SECOND_SUM), 0);
+                cursor = at(s, NEXT);
+            }
+        }
+
+        private void execute(int s) {
             int a = at(s, A);
             int b = at(s, B);
             switch (at(s, TYPE)) {
                 case DO_MARK: world.append(s, a); break;
-                case DO_CALL: call(a, x, y); break;
-                case DO_SET: world.setNow(NOW_VARIABLES + a, x); break;
-                case DO_NEW: world.newRow(a, x); break;
+                case DO_CALL:
+                    if (world.active() >= MOST_ACTIVE) {
+                        world.raise(KIND_DEEP, NONE);
+                    } else {
+                        enter(a, firstSum, secondSum);
+                    }
+                    break;
+                case DO_SET: world.setNow(NOW_VARIABLES + a, firstSum); break;
+                case DO_NEW: world.newRow(a, firstSum); break;
                 case DO_NO_ROW: world.setNow(NOW_ROWS + a, NONE); break;
                 case DO_COPY: world.setNow(NOW_ROWS + a, world.now(NOW_ROWS + b)); break;
-                case DO_STORE: world.store(a, x, y); break;
-                case DO_RETURN: endBy(BY_RETURN, x); break;
-                case DO_IF: enterBlock(s, world.compares(a, x, y) ? BLOCK : OTHER_BLOCK); break;
+                case DO_STORE: world.store(a, firstSum, secondSum); break;
+                case DO_RETURN: endBy(BY_RETURN, firstSum); break;
+                case DO_IF: enterBlock(s, world.compares(a, firstSum, secondSum) ? BLOCK : OTHER_BLOCK); break;
                 case DO_LOOP:
-                    setSlot(s, TURNS_LEFT, x);
+                    setSlot(s, TURNS_LEFT, firstSum);
                     turn(s);
                     break;
                 case DO_LEAVE: endBy(BY_LEAVE, a); break;
@@ -1887,16 +1916,12 @@ public final class WaysAtlas {
                 case DO_THROW: world.raise(a, NONE); break;
                 case DO_WRAP: world.raise(a, world.slot(b, CAUGHT)); break;
                 case DO_AGAIN: world.thrown = world.slot(b, CAUGHT); break;
-                case DO_GUARD: openAll(s, a); break;
+                case DO_GUARD:
+                    setSlot(s, PHASE, OPENING);
+                    setSlot(s, OPENED, 0);
+                    enterBlock(s, NONE);
+                    break;
                 default: break;
-            }
-        }
-
-        private void call(int method, int x, int y) {
-            if (world.active() >= MOST_ACTIVE) {
-                world.raise(KIND_DEEP, NONE);
-            } else {
-                enter(method, x, y);
             }
         }
 
@@ -1917,32 +1942,6 @@ public final class WaysAtlas {
             }
         }
 
-        private void openAll(int s, int n) {
-            for (int k = 0; k < n; k++) {
-                if (!world.takeStep()) {
-                    return;
-                }
-                world.open(s, k);
-                if (world.thrown != NONE) {
-                    inside = s;
-                    endBy(BY_EXCEPTION, world.thrown);
-                    world.thrown = NONE;
-                    closeAll(s, k);
-                    return;
-                }
-            }
-            setSlot(s, PHASE, IN_BLOCK);
-            enterBlock(s, BLOCK);
-        }
-
-        private void endBlock(int s) {
-            switch (at(s, TYPE)) {
-                case DO_LOOP: endTurn(s); break;
-                case DO_GUARD: endPhase(s); break;
-                default: goOn(s); break;
-            }
-        }
-
         private void endTurn(int s) {
             if (way == AT_END || way == BY_NEXT && value == s) {
                 turn(s);
@@ -1954,37 +1953,60 @@ public final class WaysAtlas {
             }
         }
 
+        /** Nothing of the guard is being executed: goes on with what comes next. */
         private void endPhase(int s) {
             switch (slot(s, PHASE)) {
-                case IN_BLOCK: closeAll(s, at(s, A)); break;
-                case IN_CATCH: finish(s); break;
+                case OPENING: openNext(s); break;
+                case AFTER_BLOCK: setSlot(s, PHASE, CLOSING); break;
+                case CLOSING:
+                    if (slot(s, OPENED) > 0) {
+                        closeNext(s);
+                    } else {
+                        chooseCatch(s);
+                    }
+                    break;
+                case AFTER_CATCH: finish(s); break;
                 default: endFinally(s); break;
             }
         }
 
-        private void closeAll(int s, int opened) {
-            for (int k = opened - 1; k >= 0; k--) {
-                if (!world.takeStep()) {
-                    return;
-                }
-                world.close(s, k);
-                int e = world.thrown;
-                world.thrown = NONE;
-                if (e != NONE && way == BY_EXCEPTION) {
-                    world.suppress(value, e);
-                } else if (e != NONE) {
-                    endBy(BY_EXCEPTION, e);
+        private void openNext(int s) {
+            int opened = slot(s, OPENED);
+            if (opened >= at(s, A)) {
+                setSlot(s, PHASE, AFTER_BLOCK);
+                enterBlock(s, BLOCK);
+            } else if (world.takeStep()) {
+                world.open(s, opened);
+                if (world.thrown == NONE) {
+                    setSlot(s, OPENED, opened + 1);
+                } else {
+                    setSlot(s, PHASE, CLOSING);
+                    takeThrown();
                 }
             }
+        }
+
+        private void closeNext(int s) {
+            int last = slot(s, OPENED) - 1;
+            if (world.takeStep()) {
+                setSlot(s, OPENED, last);
+                world.close(s, last);
+                if (world.thrown != NONE && way == BY_EXCEPTION) {
+                    world.suppress(value, world.thrown);
+                    world.thrown = NONE;
+                }
+                takeThrown();
+            }
+        }
+
+        private void chooseCatch(int s) {
+            setSlot(s, PHASE, AFTER_CATCH);
             int c = way == BY_EXCEPTION ? world.program.catchOf(s, world.kindOf(value)) : NONE;
-            if (c == NONE) {
-                finish(s);
-                return;
+            if (c != NONE) {
+                setSlot(s, CAUGHT, value);
+                way = AT_END;
+                cursor = world.program.catches.get(c, CATCH_BLOCK);
             }
-            setSlot(s, CAUGHT, value);
-            setSlot(s, PHASE, IN_CATCH);
-            way = AT_END;
-            cursor = world.program.catches.get(c, CATCH_BLOCK);
         }
 
         private void finish(int s) {
@@ -1994,7 +2016,7 @@ public final class WaysAtlas {
             }
             setSlot(s, PENDING_WAY, way);
             setSlot(s, PENDING, value);
-            setSlot(s, PHASE, IN_FINALLY);
+            setSlot(s, PHASE, AFTER_FINALLY);
             world.finish(s);
             enterBlock(s, OTHER_BLOCK);
         }
@@ -2065,7 +2087,8 @@ public final class WaysAtlas {
 
         void work(int method, int a, int b) {
             stack.reset();
-            enter(method, a, b);
+            world.enter(method, a, b);
+            next = world.program.methods.get(method, METHOD_ENTRY);
             for (int i = 0; i < MOST_TURNS && world.isRunning(); i++) {
                 present = next;
                 next++;
@@ -2095,11 +2118,6 @@ public final class WaysAtlas {
             int x = stack.get(stack.rows - 1, 0);
             stack.drop();
             return x;
-        }
-
-        private void enter(int method, int a, int b) {
-            world.enter(method, a, b);
-            next = world.program.methods.get(method, METHOD_ENTRY);
         }
 
         private void unwind() {
@@ -2207,7 +2225,8 @@ public final class WaysAtlas {
                 world.raise(KIND_DEEP, NONE);
             } else {
                 world.setNow(NOW_PLACE, present);
-                enter(method, a, b);
+                world.enter(method, a, b);
+                next = world.program.methods.get(method, METHOD_ENTRY);
             }
         }
 

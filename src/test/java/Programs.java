@@ -1,7 +1,11 @@
 import java.util.Random;
+import java.util.regex.Matcher;
+import java.util.regex.Pattern;
 
 /** Random programs of the language, and texts that are almost programs. */
 final class Programs {
+    private static final Pattern TOKEN = Pattern.compile("[a-z]+(?![0-9])|[kmvr][0-9]+|[0-9]+|[^a-z0-9]");
+
     private final Random random;
     private final StringBuilder text = new StringBuilder();
     private int budget;
@@ -24,6 +28,38 @@ final class Programs {
             }
         }
         return "method{}";
+    }
+
+    /** A program in which some tokens are changed for others of their sort, so that the grammar mostly holds. */
+    String almost() {
+        StringBuilder b = new StringBuilder();
+        Matcher m = TOKEN.matcher(next());
+        int rare = 2 + random.nextInt(40);
+        while (m.find()) {
+            String token = m.group();
+            b.append(random.nextInt(rare) == 0 ? changed(token) : token);
+        }
+        return b.length() > 1000 ? b.substring(0, 1000) : b.toString();
+    }
+
+    private String changed(String token) {
+        char first = token.charAt(0);
+        if (token.matches("[kmvr][0-9]+")) {
+            int most = random.nextInt(5) == 0 ? 120 : first == 'k' ? 17 : first == 'm' ? 9 : first == 'v' ? 7 : 4;
+            return first + "" + random.nextInt(most);
+        }
+        switch (first) {
+            case ';':
+                String[] more = {"again;", "wrap k0;", "leave 1;", "next 2;", "guard{}finally{}", "v0=1;", "call m1(0,0);",
+                    "loop 1{loop 1{loop 1{}}}", "v1=1;".repeat(random.nextInt(70)), "with 0{}", "with 3{}",
+                    "v2=" + "(".repeat(5) + "1" + ")".repeat(5) + ";", "v3=" + "-".repeat(7 + random.nextInt(3)) + "1;"};
+                return ";" + more[random.nextInt(more.length)];
+            case '}': return random.nextInt(9) == 0 ? "}}" : random.nextBoolean() ? "}method{" : token;
+            case '-': return "--";
+            case '(': return "((";
+            default: break;
+        }
+        return token.matches("[0-9]+") ? "" + random.nextInt(5) : token;
     }
 
     /** A program in which a few bytes are changed. */

@@ -25,7 +25,8 @@ public final class RandomTest {
     }
 
     private static void faulty(Random random) {
-        String text = new Programs(random).broken();
+        Programs programs = new Programs(random);
+        String text = random.nextInt(3) == 0 ? programs.broken() : programs.almost();
         Oracle oracle = new Oracle(text);
         WaysAtlas x = new WaysAtlas();
         int want = oracle.fault == 0 ? oracle.statements.size() : -100 - oracle.faultPlace;

@@ -1,6 +1,9 @@
+import java.util.List;
+
 /** The greatest programs and runs that the document allows, and what is just beyond them. */
 public final class LimitsTest {
     private static final int BAD = -1, NONE = -9;
+    private static final String FAULTY = "method{loop 1{loop 2{guard{}catch k0{}catch k1{guard{}catch k2{again";
     private static final Checks CHECKS = new Checks();
 
     public static void main(String[] args) {
@@ -11,6 +14,7 @@ public final class LimitsTest {
         longTexts();
         longRuns();
         manyCalls();
+        nothingGathers();
         wildArguments();
         CHECKS.end("LimitsTest");
     }
@@ -23,7 +27,14 @@ public final class LimitsTest {
             CHECKS.due("fault of " + text, x.fault(), 0);
             Oracle oracle = new Oracle(text);
             for (int m = 0; m < oracle.methods.size(); m++) {
-                CHECKS.due("same " + text, x.same(m, 1, 2), 1);
+                for (int a = 0; a < 6; a++) {
+                    CHECKS.due("same " + text, x.same(m, a, 2), 1);
+                    CHECKS.due("returned by " + text, x.run(false, m, a, 2, 400), x.run(true, m, a, 2, 400));
+                    Oracle.Run run = oracle.new Run(m, a, 2, List.of(), 400);
+                    for (int what = 0; what <= 9; what++) {
+                        CHECKS.due("ran " + what + " of " + text, x.ran(0, what), run.property(what));
+                    }
+                }
                 CHECKS.due("ways " + text, x.ways(m, 1, 2), oracle.ways(m, 1, 2));
             }
         }
@@ -126,7 +137,7 @@ public final class LimitsTest {
         fine("method{" + "with 3{}finally{}".repeat(38) + "with 3{}".repeat(42) + "}", 80);
         fine("method{guard{throw k2;}" + "catch k3{}".repeat(95) + "finally{}}", 2);
         fine(fill("method{guard{throw k2;}", "catchk3{}", "}"), 2);
-        // Copies of copies: shared after all.
+        copies();
         String deep = "return 1;";
         for (int i = 0; i < 5; i++) {
             deep = "guard{" + deep + "}finally{" + (i % 2 == 0 ? "mark 1;" : "if v0=1{throw k2;}") + "}";
@@ -142,6 +153,28 @@ public final class LimitsTest {
             left = (i % 2 == 0 ? "guard{" : "with 2{") + left + "}finally{mark 2;if v2=" + i + "{v2=v2+1;next 1;}}";
         }
         fine("method{loop 9{" + left + "}}", 23);
+    }
+
+    /** Copies of finishing blocks that become too long: by their code, their handlers, or copies within copies. */
+    private static void copies() {
+        String code = "v2=v2" + "+1".repeat(60) + ";mark 1;";
+        for (int i = 0; i < 4; i++) {
+            code = "guard{if v0=" + i + "{throw k3;}}catch k3{}catch k4{}finally{" + code + "}";
+        }
+        fine("method{" + code + "mark 9;return v2;}", 16);
+        fine("method{loop 20{guard{" + "if v0=v1-1{next 1;}".repeat(36) + "}finally{guard{throw k4;}"
+                + "catchk3{}".repeat(12) + "catchk4{mark 1;}}}return 7;}", 78);
+        String inner = "return 6;";
+        String[] blocks = {"return 5;", "return 4;", "guard{return 3;}finally{if v0=1{return 33;}}",
+            "guard{guard{return 2;}finally{if v0=2{return 22;}}}finally{if v0=3{return 23;}}",
+            "guard{guard{if v0=4{return 1;}}finally{if v0=2{return 11;}}}finally{if v0=3{return 12;}}"};
+        for (String block : blocks) {
+            inner = "guard{" + inner + "}finally{" + block + "}";
+        }
+        fine("method{" + inner + "return 8;}", 28);
+        fine("method{" + "loop 1{}".repeat(76) + "loop 1{guard{leave 1;}finally{mark 1;}}}", 80);
+        fine("method{" + "with 1{}".repeat(76) + "loop 1{guard{leave 1;}finally{mark 1;}}}", 80);
+        fine("method{" + "guard{}finally{}".repeat(58) + "loop 1{guard{leave 1;}finally{mark 1;}}}", 62);
     }
 
     /** As often as it fits into 1000 bytes. */
@@ -184,6 +217,44 @@ public final class LimitsTest {
             CHECKS.due("first", x.failure(which, 0, 2), 1);
             for (int i = 1; i <= 30; i++) {
                 CHECKS.due("next of " + i, x.failure(which, i, 3), i == 30 ? NONE : i + 1);
+            }
+        }
+    }
+
+    /** What runs and programs leave behind does not gather. */
+    private static void nothingGathers() {
+        // Sums that an exception cuts off, and a value that waits for a closing.
+        fine("method{loop 80{guard{v2=1+(2+1/0);}catch k0{}}return 2+3*v0;}", 4);
+        WaysAtlas x = Checks.made("method{with 1{return 1+v0;}}method{return 1+(2+(3+v0));}", true);
+        for (int i = 0; i < 80; i++) {
+            CHECKS.due("spent", x.run(false, 0, i, 0, 3), WaysAtlas.SPENT);
+        }
+        CHECKS.due("run", x.run(false, 1, 4, 0, 400), WaysAtlas.RETURNED);
+        CHECKS.due("returned", x.ran(0, 1), 10);
+        // Programs on one object.
+        x = new WaysAtlas();
+        String sum = "+(1*2)".repeat(100);
+        for (int i = 0; i < 100; i++) {
+            CHECKS.due("faulty", Checks.compile(x, FAULTY, true),
+                    -100 - FAULTY.length());
+            String text = "method{guard{return v0" + sum + ";}catch k" + i % 7 + "{}}";
+            CHECKS.due("statements", Checks.compile(x, text, i % 2 == 0), 2);
+            CHECKS.due("catches", x.count(3), 1);
+            CHECKS.due("kind", x.handler(0, 1), i % 7);
+            CHECKS.due("no other", x.handler(1, 1), BAD);
+            CHECKS.due("run", x.run(i % 3 == 0, 0, i, 0, 400), WaysAtlas.RETURNED);
+            CHECKS.due("returned", x.ran(i % 3 == 0 ? 1 : 0, 1), i + 200);
+        }
+        // Runs on one object, with as many calls as there may be.
+        x = Checks.made("method{" + "call m1(0,0);".repeat(19) + "call m3(0,0);}method{" + "call m2(0,0);".repeat(19)
+                + "}method{}method{throw k3;}", true);
+        for (int i = 0; i < 30; i++) {
+            for (int which = 0; which < 2; which++) {
+                CHECKS.due("run", x.run(which == 1, 0, 0, 0, 400), WaysAtlas.THROWN);
+                CHECKS.due("steps", x.ran(which, 9), 382);
+                CHECKS.due("trace", x.trace(which, 0, 0), 3039);
+                CHECKS.due("trace", x.trace(which, 0, 1), 19);
+                CHECKS.due("trace", x.trace(which, 0, 2), NONE);
             }
         }
     }

@@ -698,6 +698,7 @@ public final class PromisesTest {
         topic = "rows";
         gives("r0=row 3;r0[1]=5;return r0[1]*10+r0[2];", 50);
         gives("r0=row 8;return size r0;", 8);
+        gives("r0=row 8;r0[7]=5;r0[0]=2;return r0[7]+r0[0]+r0[6];", 7);
         gives("r0=row 0;return size r0;", 0);
         gives("r0=row 0;return r0[0];", -103);
         gives("r0=row 9;", -105);
@@ -878,6 +879,16 @@ public final class PromisesTest {
         due("closed before a catch", x.mark(0, 0), 1);
         due("returned", x.ran(0, 0), RETURNED);
         due("suppressed", x.failure(0, 0, 2), 1);
+        // An exception behind a way out that is not taken.
+        String[] outs = {"leave 1;", "next 1;", "return 1;"};
+        for (String out : outs) {
+            x = planned("loop 1{with 2{if v0=9{" + out + "}throw k3;}catch k3{mark 3;}finally{mark 4;}}");
+            due("closed in spite of " + out, x.ran(0, 6), 2);
+            due("caught", x.mark(0, 0), 3);
+            x = planned("loop 1{with 2{if v0=9{" + out + "}}catch k5{mark 5;}}", 1515);
+            due("closed in spite of " + out, x.ran(0, 6), 2);
+            due("caught", x.mark(0, 0), 5);
+        }
         x = planned("with 1{}catch k5{return 6;}", 415);
         due("a closing's exception is caught", x.ran(0, 1), 6);
         x = planned("with 1{}catch k5{again;}finally{return 8;}", 415);

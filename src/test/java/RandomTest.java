@@ -5,6 +5,7 @@ import java.util.Random;
 /** Compares the class with the oracle on random programs, plans and runs, and on texts that have a fault. */
 public final class RandomTest {
     private static final Checks CHECKS = new Checks();
+    private static WaysAtlas used;
     private static int ended;
     private static final int[] ENDS = new int[3];
     private static final int[] FAULTS = new int[4];
@@ -28,7 +29,7 @@ public final class RandomTest {
         Programs programs = new Programs(random);
         String text = random.nextInt(3) == 0 ? programs.broken() : programs.almost();
         Oracle oracle = new Oracle(text);
-        WaysAtlas x = new WaysAtlas();
+        WaysAtlas x = used;
         int want = oracle.fault == 0 ? oracle.statements.size() : -100 - oracle.faultPlace;
         CHECKS.due("compile of " + text, Checks.compile(x, text, random.nextBoolean()), want);
         CHECKS.due("fault of " + text, x.fault(), oracle.fault);
@@ -39,7 +40,11 @@ public final class RandomTest {
         String text = new Programs(random).next();
         Oracle oracle = new Oracle(text);
         boolean shared = random.nextBoolean();
-        WaysAtlas x = new WaysAtlas();
+        // Now and then a new object; what an object has done before does not matter.
+        if (used == null || random.nextInt(4) == 0) {
+            used = new WaysAtlas();
+        }
+        WaysAtlas x = used;
         CHECKS.due("compile of " + text, Checks.compile(x, text, shared), oracle.statements.size());
         CHECKS.due("fault of " + text, x.fault(), 0);
         if (CHECKS.wrong() > 0) {

@@ -165,16 +165,30 @@ public final class LimitsTest {
         fine("method{loop 20{guard{" + "if v0=v1-1{next 1;}".repeat(36) + "}finally{guard{throw k4;}"
                 + "catchk3{}".repeat(12) + "catchk4{mark 1;}}}return 7;}", 78);
         String inner = "return 6;";
-        String[] blocks = {"return 5;", "return 4;", "guard{return 3;}finally{if v0=1{return 33;}}",
-            "guard{guard{return 2;}finally{if v0=2{return 22;}}}finally{if v0=3{return 23;}}",
-            "guard{guard{if v0=4{return 1;}}finally{if v0=2{return 11;}}}finally{if v0=3{return 12;}}"};
+        String[] blocks = {"return 5;", "return 4;", "guard{return 3;}finally{if v1=2{return 33;}}",
+            "guard{guard{return 2;}finally{if v1=2{return 22;}}}finally{if v1=2{return v0;}}",
+            "mark 1;guard{guard{if v0<4{return 1;}}finally{if v1=2{mark 8;}}}finally{if v0=3{return 12;}}"};
         for (String block : blocks) {
             inner = "guard{" + inner + "}finally{" + block + "}";
         }
-        fine("method{" + inner + "return 8;}", 28);
+        fine("method{" + inner + "return 8;}", 29);
+        // Each return is passed on through a copy within the copy before it.
+        inner = "return 6;";
+        for (int i = 0; i < 5; i++) {
+            inner = "guard{" + inner + "}finally{" + passing(Math.min(i, 2), 10 * i) + "}";
+        }
+        fine("method{" + inner + "return 8;}", 50);
         fine("method{" + "loop 1{}".repeat(76) + "loop 1{guard{leave 1;}finally{mark 1;}}}", 80);
         fine("method{" + "with 1{}".repeat(76) + "loop 1{guard{leave 1;}finally{mark 1;}}}", 80);
         fine("method{" + "guard{}finally{}".repeat(58) + "loop 1{guard{leave 1;}finally{mark 1;}}}", 62);
+    }
+
+    private static String passing(int levels, int number) {
+        if (levels == 0) {
+            return "mark " + number + ";return 1;";
+        }
+        return "mark " + number + ";guard{" + (levels > 1 ? passing(levels - 1, number + 1) : "return 2;") + "}finally{"
+                + passing(levels - 1, number + 5) + "}";
     }
 
     /** As often as it fits into 1000 bytes. */

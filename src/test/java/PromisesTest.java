@@ -721,6 +721,9 @@ public final class PromisesTest {
         gives("r0=row 2;r1=r0;r1[1]=4;return r0[1];", 4);
         gives("r0=row 2;r0[0]=6;r1=r0;r0=row 2;return r1[0]*10+r0[0];", 60);
         gives("r0=row 2;r0=none;return size r0;", -104);
+        gives("r1=row 2;v5=3;r1=none;return size r1;", -104);
+        gives("r2=row 2;v5=3;r2=none;return size r2;", -104);
+        gives("r2=row 2;r2=r1;return size r2;", -104);
         gives("r0=row 2;r0=r1;return size r0;", -104);
         gives("r0=row 2;guard{r0=row 9;}catch k5{return size r0;}", 2);
         gives("r0=row 3;r0[0]=1;r0[1]=2;r0[2]=0;return 7*r0[r0[0]]+r0[r0[r0[0]]];", 14);

@@ -1554,6 +1554,8 @@ public final class WaysAtlas {
             slots = new Table(MOST_ACTIVE * MOST_BLOCKS, SLOT_WIDTH);
             arrays = new Table(MOST_STEPS, 1 + MOST_LENGTH);
             passed = new Table(MOST_STATEMENTS, PARTS);
+            // Not for each run: a slot is always set before it is read.
+            slots.fill(MOST_ACTIVE * MOST_BLOCKS, NONE);
             thrown = NONE;
         }
 
@@ -1565,7 +1567,6 @@ public final class WaysAtlas {
             thrown = NONE;
             record.restart(program.statements.rows);
             activations.reset();
-            slots.fill(MOST_ACTIVE * MOST_BLOCKS, NONE);
             arrays.reset();
             passed.fill(program.statements.rows, 0);
         }

@@ -63,6 +63,16 @@ public final class CallBoundariesTest extends Sentences {
         for (calls++; calls < 512; calls++) {
             due("ways", x.ways(0, 0, 0), ways);
         }
+        // As many programs with as many handlers as 512 calls can bring.
+        for (int way = 0; way < 2; way++) {
+            x = new WaysAtlas();
+            for (int i = 0; i < 4; i++) {
+                due("compile", Checks.compile(x, in("with 3{}catchk0{}".repeat(58)), way == 0), 58);
+            }
+            due("run", x.run(false, 0, 0, 0, 400), SPENT);
+            due("opened", x.ran(0, 5), 171);
+            due("same", x.same(0, 0, 0), 1);
+        }
         x = new WaysAtlas();
         for (int i = 0; i < 125; i++) {
             x.say(0x2020202020202020L, 8);
@@ -90,6 +100,24 @@ public final class CallBoundariesTest extends Sentences {
     }
 
     private static void badAndFull() {
+        sentence("BAD (-1): an argument is out of its range, names something that does not exist, or needs a program or a run that is "
+                + "not there.");
+        WaysAtlas none = new WaysAtlas();
+        int[] needAProgram = {none.count(0), none.count(1), none.count(2), none.count(3), none.plan(0, 0, 1, 0),
+            none.run(false, 0, 0, 0, 400), none.run(true, 0, 0, 0, 400), none.handler(0, 0), none.ways(0, 0, 0), none.same(0, 0, 0)};
+        for (int i = 0; i < needAProgram.length; i++) {
+            due("without a program, " + i, needAProgram[i], BAD);
+        }
+        for (int which = 0; which < 2; which++) {
+            WaysAtlas idle = Checks.made(RICH, true);
+            due("a run that is not made", idle.run(tree(which), 0, 6, 0, 401), BAD);
+            due("a run of the other way", idle.run(tree(1 - which), 0, 6, 0, 400), THROWN);
+            int[] needARun = {idle.ran(which, 0), idle.mark(which, 0), idle.failure(which, 0, 0), idle.trace(which, 0, 0),
+                idle.closed(which, 0), idle.entered(which, 1)};
+            for (int i = 0; i < needARun.length; i++) {
+                due("without a run, " + i, needARun[i], BAD);
+            }
+        }
         sentence("FULL (-2): there is no room. If both apply, BAD is returned.");
         WaysAtlas x = Checks.made(RICH, true);
         for (int i = 0; i < 125; i++) {
@@ -294,6 +322,21 @@ public final class CallBoundariesTest extends Sentences {
         due("no second method", x.run(true, 1, 0, 0, 400), BAD);
         due("no kind 7", x.plan(0, 0, 1, 7), BAD);
 
+        x = new WaysAtlas();
+        for (int i = 0; i < 8; i++) {
+            String catches = "guard{v2=" + "(1+".repeat(i) + "1" + ")".repeat(i) + ";throw k3;}" + "catch k2{}".repeat(i) + "catch k3{}";
+            String program = "kind under k0;".repeat(i) + in(catches + "mark " + i + ";return v2;") + "method{}".repeat(i % 4);
+            due("statements", Checks.compile(x, program, i % 2 == 0), 5);
+            due("methods", x.count(1), 1 + i % 4);
+            due("kinds", x.count(2), 7 + i);
+            due("catches", x.count(3), i + 1);
+            due("the last catch", x.handler(i, 1), 3);
+            due("no more catches", x.handler(i + 1, 1), BAD);
+            due("run", x.run(i % 3 == 0, 0, 0, 0, 400), RETURNED);
+            due("returned", x.ran(i % 3 == 0 ? 1 : 0, 1), i + 1);
+            due("marked", x.mark(i % 3 == 0 ? 1 : 0, 0), i);
+        }
+
         sentence("If it has none, the plan is empty then, and there is no run that can be asked for; if it has one, the present program, "
                 + "the plan and the runs stay.");
         for (int shared = 0; shared < 2; shared++) {
@@ -333,17 +376,26 @@ public final class CallBoundariesTest extends Sentences {
 
         sentence("true if one block is shared by all ways out, false if it is copied to each of them (if the copies become too long, it "
                 + "is shared). The results are the same");
-        String deep = "return 1;";
-        for (int i = 0; i < 5; i++) {
-            deep = "guard{if v0=" + i + "{return v2;}if v0=" + (i + 6) + "{throw k" + i + ";}}finally{v2=v2*3+" + i + ";" + deep + "}";
+        String[] texts = manyWaysOut();
+        for (String text : texts) {
+            WaysAtlas[] objects = {Checks.made(text, true), Checks.made(text, false)};
+            for (int a = -1; a < 11; a++) {
+                for (int i = 0; i < 4; i++) {
+                    WaysAtlas it = objects[i / 2];
+                    due("run", it.run(tree(i % 2), 0, a, 2, 400), objects[0].run(false, 0, a, 2, 400));
+                    for (int what = 0; what <= 9; what++) {
+                        due("ran " + what + " with " + a + " of " + text, it.ran(i % 2, what), objects[0].ran(0, what));
+                    }
+                }
+            }
         }
-        String text = in(deep);
-        WaysAtlas[] objects = {Checks.made(text, true), Checks.made(text, false)};
-        for (int a = -1; a < 13; a++) {
-            for (int i = 0; i < 4; i++) {
-                due("run", objects[i / 2].run(tree(i % 2), 0, a, 0, 400), objects[0].run(false, 0, a, 0, 400));
-                for (int what = 0; what <= 9; what++) {
-                    due("ran " + what + " with " + a, objects[i / 2].ran(i % 2, what), objects[0].ran(0, what));
+
+        sentence("It can be run in two ways, as code with tables of handlers, or as a tree that is walked; both have the same results.");
+        for (String text : texts) {
+            for (int i = 0; i < 2; i++) {
+                WaysAtlas it = Checks.made(text, i == 0);
+                for (int a = -1; a < 13; a++) {
+                    due("same with " + a + " of " + text, it.same(0, a, 2), 1);
                 }
             }
         }
@@ -363,7 +415,35 @@ public final class CallBoundariesTest extends Sentences {
         due("full text", x.compile(false), -1100);
     }
 
+    /** Finishing blocks of which the copies, or the code, the handlers or the depth of the copies, become too long. */
+    private static String[] manyWaysOut() {
+        String few = "return 1;";
+        for (int i = 0; i < 5; i++) {
+            few = "guard{if v0=" + i + "{return v2;}if v0=" + (i + 6) + "{throw k" + i + ";}}finally{v2=v2*3+" + i + ";" + few + "}";
+        }
+        String code = "v2=v2" + "+1".repeat(60) + ";mark 1;";
+        for (int i = 0; i < 4; i++) {
+            code = "guard{if v0=" + i + "{throw k3;}}catch k3{}catch k4{}finally{" + code + "}";
+        }
+        String handlers = "loop 20{guard{" + "if v0=v1-1{next 1;}".repeat(36) + "}finally{guard{throw k4;}" + "catchk3{}".repeat(12)
+                + "catchk4{mark 1;}}}return 7;";
+        String within = "return 6;";
+        String[] blocks = {"return 5;", "return 4;", "guard{return 3;}finally{if v1=2{return 33;}}",
+            "guard{guard{return 2;}finally{if v1=2{return 22;}}}finally{if v1=2{return v0;}}",
+            "mark 1;guard{guard{if v0<4{return 1;}}finally{if v1=2{mark 8;}}}finally{if v0=3{return 12;}}"};
+        for (String block : blocks) {
+            within = "guard{" + within + "}finally{" + block + "}";
+        }
+        return new String[] {in(few), in(code + "mark 9;return v2;"), in(handlers), in(within + "return 8;")};
+    }
+
     private static void fault() {
+        sentence("Returns the number of the fault that the latest call of compile() has found.");
+        WaysAtlas y = new WaysAtlas();
+        for (String text : new String[] {"method{v6=1;}", "method{v5=1;}", "", "method{again;}"}) {
+            Checks.compile(y, text, true);
+            due("fault of " + text, y.fault(), text.isEmpty() ? 1 : text.contains("v6") ? 2 : text.contains("again") ? 3 : 0);
+        }
         sentence("Returns 1 to 3; 0 if it found none, or there was no such call.");
         WaysAtlas x = new WaysAtlas();
         due("no such call", x.fault(), 0);
@@ -384,6 +464,13 @@ public final class CallBoundariesTest extends Sentences {
     }
 
     private static void count() {
+        sentence("`what`: 0 statements, 1 methods, 2 kinds (the 7 that are always there included), 3 catches, 4 entries of the plan");
+        for (int kinds = 0; kinds <= 9; kinds++) {
+            due("kinds", Checks.made("kind under k0;".repeat(kinds) + "method{}", true).count(2), 7 + kinds);
+        }
+        for (int methods = 1; methods <= 8; methods++) {
+            due("methods", Checks.made("method{}".repeat(methods), true).count(1), methods);
+        }
         sentence("Returns the number; BAD if what is not 0 to 4; BAD for 0 to 3, and 0 for 4, if there is no program.");
         WaysAtlas x = new WaysAtlas();
         for (int program = 0; program < 3; program++) {
@@ -417,6 +504,15 @@ public final class CallBoundariesTest extends Sentences {
     }
 
     private static void plan() {
+        sentence("- `statement`: the statement");
+        WaysAtlas first = Checks.made(in("mark 1;" + "v0=1;".repeat(78) + "mark 1;"), true);
+        for (int s : new int[] {LEAST, -80, -1, 0, 1, 78, 79, 80, 81, MOST}) {
+            due("statement " + s, first.plan(s, 0, 1, 0), s == 0 ? 1 : s == 79 ? 2 : BAD);
+        }
+        sentence("- `kind`: the kind");
+        for (int kind : new int[] {LEAST, -1, 0, 6, 7, 16, MOST}) {
+            due("kind " + kind, first.plan(0, 0, 1, kind), kind == 0 ? 3 : kind == 6 ? 4 : BAD);
+        }
         sentence("`part`: 0 to 6; the statement must have this part: 0 for a mark, 1 to n and 4 to n + 3 for a with n");
         String text = in("mark 1;with 1{}with 2{}with 3{}guard{}catch k0{}guard{}finally{}v0=1;r0=none;loop 1{}if 1=1{}return 1;"
                 + "call m0(0,0);throw k1;r0[0]=1;r0=row 1;r0=r1;v0=call m0(0,0);");
@@ -467,7 +563,7 @@ public final class CallBoundariesTest extends Sentences {
     }
 
     private static void clear() {
-        sentence("Returns how many entries it had.");
+        sentence("Empties the plan. Returns how many entries it had.");
         WaysAtlas x = new WaysAtlas();
         due("no program", x.clear(), 0);
         Checks.compile(x, in("guard{mark 1;}catch k0{return 5;}"), true);
@@ -513,6 +609,15 @@ public final class CallBoundariesTest extends Sentences {
             due("the last one", x.run(tree(which), 7, 0, 0, 0), SPENT);
         });
         due("no program", new WaysAtlas().run(true, 0, 0, 0, 1), BAD);
+        sentence("Runs a method, with the present plan.");
+        WaysAtlas planned = Checks.made(in("mark 1;"), true);
+        for (int i = 0; i < 2; i++) {
+            due("run", planned.run(tree(i), 0, 0, 0, 400), RETURNED);
+            planned.plan(0, 0, 1, 4);
+            due("run", planned.run(tree(i), 0, 0, 0, 400), THROWN);
+            due("clear", planned.clear(), 1);
+            due("run", planned.run(tree(i), 0, 0, 0, 400), RETURNED);
+        }
         sentence("true to walk the tree, false to run the code");
         WaysAtlas x = Checks.made("method{return v0;}", true);
         due("code", x.run(false, 0, 5, 0, 1), RETURNED);
@@ -567,6 +672,14 @@ public final class CallBoundariesTest extends Sentences {
     }
 
     private static void mark() {
+        sentence("`i`: its index, from 0");
+        each(in("mark 3;mark 4;"), (x, which) -> {
+            x.run(tree(which), 0, 0, 0, 400);
+            int[] want = {NONE, 3, 4, NONE};
+            for (int i = -1; i <= 2; i++) {
+                due("mark " + i, x.mark(which, i), want[i + 1]);
+            }
+        });
         sentence("Returns the number; NONE if there are not so many, or i is negative; BAD if there is no such run.");
         each(in("loop v0{mark 7;}"), (x, which) -> {
             for (int i : new int[] {LEAST, -1, 0, 1, MOST}) {
@@ -676,6 +789,14 @@ public final class CallBoundariesTest extends Sentences {
     }
 
     private static void closed() {
+        sentence("`i`: the index in the order of closing, from 0");
+        each(in("with 2{with 1{}}"), (x, which) -> {
+            x.run(tree(which), 0, 0, 0, 400);
+            int[] want = {NONE, 2, 1, 0, NONE};
+            for (int i = -1; i <= 3; i++) {
+                due("closed " + i, x.closed(which, i), want[i + 1]);
+            }
+        });
         sentence("Returns the number of the resource; NONE if there were not so many closings, or i is negative; BAD if there is no such "
                 + "run.");
         each(in("loop v0{with 1{}}"), (x, which) -> {
@@ -798,6 +919,9 @@ public final class CallBoundariesTest extends Sentences {
         ways(order, 31, 0, 31);
         // Of kind 0, and alone.
         ways("method{guard{mark 1;}catch k1{return 1;}}", 0, 0, 2);
+        ways("method{guard{mark 1;}catch k1{mark 1;}}", 0, 0, 2);
+        ways("method{guard{mark 1;}catch k1{mark 1;}catch k0{throw k0;}}", 0, 0, 2);
+        ways("method{guard{mark 1;}catch k1{}catch k0{mark 1;}}", 0, 0, 1);
         ways("method{guard{mark 1;mark 2;}catch k0{return 1;}}", 0, 0, 3);
         ways("method{guard{mark 1;}catch k0{v2=1;}guard{mark 2;}catch k0{v2=v2+2;}return v2;}", 0, 0, 3);
         ways("method{}", 0, 0, 1);
@@ -807,6 +931,16 @@ public final class CallBoundariesTest extends Sentences {
         }
         due("the plan does not count", x.ways(0, 0, 0), 2);
         due("the plan stays", x.count(4), 30);
+
+        // The passings of an earlier call do not count.
+        String two = "method{loop 60{guard{mark 1;}catch k0{}}}method{v1=1;loop 5{v1=v1+1;guard{mark 2;}catch k0{return v1;}}}";
+        for (int i = 0; i < 2; i++) {
+            WaysAtlas both = Checks.made(two, i == 0);
+            for (int k = 0; k < 3; k++) {
+                due("60 passings, one way", both.ways(0, 0, 0), 1);
+                due("5 passings, six ways", both.ways(1, 0, 0), 6);
+            }
+        }
 
         sentence("All have 400 steps.");
         // With v0 turns there are 2 * v0 + 4 steps; what is behind the loop is reached with 400 of them.

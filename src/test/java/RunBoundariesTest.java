@@ -59,6 +59,13 @@ public final class RunBoundariesTest extends Sentences {
                 due("own variables", x.ran(which, 1), 3001 + 10 * (3001 + 10 * 3001));
             }
         });
+        // A call, also one that throws, leaves those of its caller as they are.
+        for (int v = 0; v <= 5; v++) {
+            String own = "v0=90;v1=91;v2=92;v3=93;v4=94;v5=95;";
+            String other = "method{v0=1;v1=2;v2=3;v3=4;v4=5;v5=6;";
+            gives("method{" + own + "guard{call m1(1,2);}catch k3{}return v" + v + ";}" + other + "throw k3;}", 0, 0, 90 + v);
+            gives("method{" + own + "loop 2{call m1(1,2);}return v" + v + ";}" + other + "return 8;}", 0, 0, 90 + v);
+        }
         for (int r = 0; r < 3; r++) {
             gives("return size r" + r + ";", THROWS - 4);
             gives("return r" + r + "[0];", THROWS - 4);
@@ -277,6 +284,14 @@ public final class RunBoundariesTest extends Sentences {
     }
 
     private static void elements() {
+        sentence("VAR = sum sets a variable.");
+        for (int a : EXTREMES) {
+            for (int v = 0; v <= 5; v++) {
+                gives("method{v" + v + "=v0;return v" + v + ";}", a, 0, a);
+            }
+        }
+        gives("guard{v0=v0+1/0;}catch k2{}return v0;", 7);
+
         sentence("ROW [ sum ] is the element of the array at this index, which is evaluated first; then kind 4 is thrown if the row "
                 + "refers to no array, and kind 3 if there is no such element.");
         for (int length = 0; length <= 8; length++) {
@@ -535,6 +550,19 @@ public final class RunBoundariesTest extends Sentences {
     }
 
     private static void failures() {
+        sentence("Exceptions are also made and thrown by the sums and calls described, and by the plan (see below).");
+        String[] throwing = {"v0=1/0;", "v0=1%0;", "r0=row 1;v0=r0[1];", "v0=size r0;", "r0[0]=1;", "r0=row 9;", "call m0(v0,v1);"};
+        int[] kinds = {2, 2, 3, 4, 4, 5, 6};
+        for (int i = 0; i < throwing.length; i++) {
+            gives(throwing[i], THROWS - kinds[i]);
+            gives("guard{" + throwing[i] + "}catch k" + kinds[i] + "{return 5;}", kinds[i] == 6 ? 0 : 5);
+        }
+        each(in("guard{mark 1;}catch k4{return 5;}"), (x, which) -> {
+            plan(x, 1, 0, 1, 4);
+            due("run", x.run(tree(which), 0, 0, 0, 400), RETURNED);
+            due("caught", x.ran(which, 1), 5);
+        });
+
         sentence("Each has a number, from 0 on, in the order in which they are made in the run; a kind; the statement of the activation "
                 + "that made it (for openings and closings: the statement with); a cause, or none; and a list of suppressed "
                 + "exceptions, empty at first.");
@@ -617,11 +645,13 @@ public final class RunBoundariesTest extends Sentences {
     private static void finishing() {
         sentence("However all this ends (at the end, by return, leave or next, or by an exception, but not if the run is spent), the "
                 + "block after finally, if there is one, is entered and executed afterwards.");
-        String[] ways = {"", "return 1;", "leave 1;", "next 1;", "throw k3;", "throw k4;", "v0=1/0;", "call m0(v0,v1);"};
+        String[] ways = {"", "return 1;", "leave 1;", "next 1;", "throw k0;", "throw k3;", "throw k4;", "v0=1/0;", "call m0(v0,v1);"};
         for (String way : ways) {
             String[] guards = {"guard{" + way + "}finally{mark 1;}", "guard{" + way + "}catch k3{}finally{mark 1;}",
                 "guard{throw k5;}catch k5{" + way + "}finally{mark 1;}", "with 2{" + way + "}finally{mark 1;}",
-                "with 1{" + way + "}catch k3{" + way + "}finally{mark 1;}"};
+                "with 1{" + way + "}catch k3{" + way + "}finally{mark 1;}",
+                "guard{throw k5;}catch k2{}catch k3{" + way + "}catch k5{" + way + "}catch k0{" + way + "}finally{mark 1;}",
+                "guard{if v0=v1{" + way + "}else{" + way + "}}finally{mark 1;}"};
             for (String guard : guards) {
                 // The calls end by kind 6, so each of the twelve is left by an exception.
                 int times = way.startsWith("call") ? 12 : 1;
@@ -677,6 +707,7 @@ public final class RunBoundariesTest extends Sentences {
             combined(firsts[i], "leave 1;", 101, lost);
             combined(firsts[i], "next 1;", 102, 2 * lost);
             combined(firsts[i], "throw k4;", THROWS - 4, lost);
+            combined(firsts[i], "throw k0;", THROWS, lost);
             combined(firsts[i], "v0=1/0;", THROWS - 2, lost);
             // Ways out that end within the block are none out of it.
             combined(firsts[i], "loop 1{leave 1;}", atEnd[i], 0);
@@ -685,6 +716,9 @@ public final class RunBoundariesTest extends Sentences {
             combined(firsts[i], "loop 1{guard{return 9;}finally{leave 1;}}", atEnd[i], 0);
             combined(firsts[i], "loop 1{guard{throw k4;}finally{next 1;}}", atEnd[i], i == 0 || i == 3 ? 2 : 1);
         }
+        combined("throw k0;", "", THROWS, 0);
+        combined("throw k0;", "throw k0;", THROWS, 1);
+        combined("throw k0;", "leave 1;", 101, 1);
         gives("guard{guard{throw k3;}finally{throw k4;}}catch k3{return 3;}catch k4{return 4;}", 4);
         gives("guard{guard{return 1;}finally{throw k4;}}catch k4{return 4;}", 4);
         gives("guard{throw k3;}catch k3{throw k4;}finally{return 5;}", 5);
@@ -727,7 +761,7 @@ public final class RunBoundariesTest extends Sentences {
 
         sentence("But however the first block ends, or if an opening throws an exception, all resources that this statement has opened "
                 + "are closed, the last one first, before any catch is considered.");
-        String[] ways = {"", "return 1;", "leave 1;", "next 1;", "throw k3;", "throw k4;", "v0=1/0;"};
+        String[] ways = {"", "return 1;", "leave 1;", "next 1;", "throw k0;", "throw k3;", "throw k4;", "v0=1/0;"};
         for (String way : ways) {
             each(in("loop 1{with 3{" + way + "}catch k3{mark 1;}}"), (x, which) -> {
                 x.run(tree(which), 0, 0, 0, 400);
@@ -741,6 +775,24 @@ public final class RunBoundariesTest extends Sentences {
                     closings(x, which, 2, 1, 0);
                 }
             });
+        }
+        // Ways out that are not taken; what is behind them ends the block.
+        for (String not : new String[] {"return 1;", "leave 1;", "next 1;"}) {
+            for (String way : ways) {
+                String block = "if v0=9{" + not + "}" + way;
+                each(in("loop 1{with 3{" + block + "}catch k3{mark 1;}finally{mark 2;}}"), (x, which) -> {
+                    x.run(tree(which), 0, 0, 0, 400);
+                    closings(x, which, 2, 1, 0);
+                    due("entered", x.entered(which, 1), 1);
+                });
+                each(in("loop 1{guard{guard{throw k5;}catch k5{" + block + "}finally{mark 1;}}catch k3{mark 3;}finally{mark 2;}}"),
+                        (x, which) -> {
+                            x.run(tree(which), 0, 0, 0, 400);
+                            due("entered", x.entered(which, 1), 1);
+                            due("entered", x.entered(which, 2), 1);
+                            due("caught", x.ran(which, 3), way.equals("throw k3;") ? 3 : 2);
+                        });
+            }
         }
         for (int part = 1; part <= 3; part++) {
             int failing = part;
@@ -809,6 +861,24 @@ public final class RunBoundariesTest extends Sentences {
             }
             due("none is lost", x.ran(which, 7), 0);
         });
+        for (int kind = 0; kind <= 6; kind++) {
+            int first = kind;
+            each(in("with 3{throw k" + kind + ";}"), (x, which) -> {
+                plan(x, 0, 6, 1, 0, 0, 4, 1, 6 - first);
+                due("run", x.run(tree(which), 0, 0, 0, 400), THROWN);
+                due("ended by", x.ran(which, 2), 0);
+                due("under it", x.failure(which, 0, 2), 1);
+                due("behind it", x.failure(which, 1, 3), 2);
+                due("kind", x.failure(which, 2, 0), 6 - first);
+            });
+            each(in("with 3{}"), (x, which) -> {
+                plan(x, 0, 6, 1, first, 0, 5, 1, 0, 0, 4, 1, 6);
+                due("run", x.run(tree(which), 0, 0, 0, 400), THROWN);
+                due("ended by", x.ran(which, 2), 0);
+                due("under it", x.failure(which, 0, 2), 1);
+                due("behind it", x.failure(which, 1, 3), 2);
+            });
+        }
         each(in("with 3{}"), (x, which) -> {
             plan(x, 0, 3, 1, 2, 0, 4, 1, 4);
             due("run", x.run(tree(which), 0, 0, 0, 400), THROWN);

@@ -410,6 +410,15 @@ public final class TextBoundariesTest extends Sentences {
             faulty(full + form + "}}}", 2, full.length());
             faulty(full + "}}}method{" + form, 2, full.length() + 10);
         }
+        // Programs with as many statements of one form as there may be are run as others are.
+        String[] forms = {"loop 1{}", "with 1{}", "guard{}catchk0{}", "guard{}finally{}", "if 1=1{}", "r0=row 1;", "mark 1;",
+            "call m1(0,0);", "loop 1{leave 1;}", "with 1{}catchk0{}", "with 1{}finally{}"};
+        for (String form : forms) {
+            int times = Math.min(79, 900 / form.length()) / (form.contains("leave") ? 2 : 1);
+            String text = in(form.repeat(times) + "return 7;") + "method{}";
+            gives(text, 0, 0, 7);
+        }
+        gives(in("loop 1{}".repeat(75) + "loop 2{guard{v2=v2+1;leave 1;}finally{}}return v2;"), 0, 0, 1);
         String full = "method{" + "v0=1;".repeat(79) + "mark 1;}";
         fine(full, 80);
         x = Checks.made(full, true);

@@ -72,6 +72,15 @@ public final class CallBoundariesTest extends Sentences {
             due("run", x.run(false, 0, 0, 0, 400), SPENT);
             due("opened", x.ran(0, 5), 171);
             due("same", x.same(0, 0, 0), 1);
+            // And with the longest sums.
+            x = new WaysAtlas();
+            for (int i = 0; i < 5; i++) {
+                String sum = "return v0" + (i % 2 == 0 ? "+1".repeat(490) : "") + ";";
+                due("compile", Checks.compile(x, in(sum), way == 0), 1);
+            }
+            due("run", x.run(way == 0, 0, 8, 0, 400), RETURNED);
+            due("returned", x.ran(1 - way, 1), 498);
+            due("same", x.same(0, 9, 0), 1);
         }
         x = new WaysAtlas();
         for (int i = 0; i < 125; i++) {
@@ -434,7 +443,27 @@ public final class CallBoundariesTest extends Sentences {
         for (String block : blocks) {
             within = "guard{" + within + "}finally{" + block + "}";
         }
-        return new String[] {in(few), in(code + "mark 9;return v2;"), in(handlers), in(within + "return 8;")};
+        String deep = "return 6;";
+        for (int i = 0; i < 5; i++) {
+            deep = "guard{" + deep + "}finally{" + passedOn(Math.min(i, 2), 10 * i) + "}";
+        }
+        // Copies within copies, with so little code that only their depth is too much.
+        String deepest = "return 1;";
+        for (int k = 5; k >= 0; k--) {
+            int ifs = k == 0 ? 5 : 0;
+            deepest = "guard{" + deepest + "}finally{" + "if v1=2{".repeat(ifs) + "return 1" + k + ";" + "}".repeat(ifs) + "}";
+        }
+        return new String[] {in(few), in(code + "mark 9;return v2;"), in(handlers), in(within + "return 8;"), in(deep + "return 8;"),
+            in(deepest)};
+    }
+
+    /** A return that is passed on through finishing blocks with returns of their own. */
+    private static String passedOn(int levels, int number) {
+        if (levels == 0) {
+            return "mark " + number + ";return 1;";
+        }
+        return "mark " + number + ";guard{" + (levels > 1 ? passedOn(levels - 1, number + 1) : "return 2;") + "}finally{"
+                + passedOn(levels - 1, number + 5) + "}";
     }
 
     private static void fault() {
@@ -778,6 +807,18 @@ public final class CallBoundariesTest extends Sentences {
                 due("run " + other, x.trace(other, 0, 0), BAD);
             }
             due("the other run", x.trace(1 - which, 0, 0), BAD);
+        });
+        // In the 400th activation of a run, of all that it can have.
+        String calls = in("call m1(0,0);".repeat(10) + "call m2(0,0);".repeat(18) + "call m3(0,0);") + in("call m2(0,0);".repeat(37))
+                + "method{}method{throw k3;}";
+        each(calls, (x, which) -> {
+            for (int i = 0; i < 4; i++) {
+                due("run", x.run(tree(which), 0, 0, 0, 400), THROWN);
+                due("steps", x.ran(which, 9), 400);
+                due("innermost", x.trace(which, 0, 0), 3066);
+                due("its caller", x.trace(which, 0, 1), 28);
+                due("none", x.trace(which, 0, 2), NONE);
+            }
         });
         // The statement when it was made, not a later one.
         each("method{guard{call m1(0,0);}catch k0{mark 1;}mark 2;}method{mark 1;throw k3;}", (x, which) -> {

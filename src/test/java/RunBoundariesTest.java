@@ -257,6 +257,18 @@ public final class RunBoundariesTest extends Sentences {
         gives("return " + LEAST_SUM + "-1;", MOST);
         gives("return -" + LEAST_SUM + ";", LEAST);
         gives("return 9999*9999*9999;", 9999 * 9999 * 9999);
+        // Sums that an exception or the end of a run cuts off leave nothing behind.
+        gives("loop 80{guard{v2=1+(2+(3+1/0));}catch k0{}}return 2+3*v0;", 23);
+        each("method{return 1+(2+(3+v0/v1));}method{with 1{return 1+v0;}}", (x, which) -> {
+            for (int i = 0; i < 70; i++) {
+                due("run", x.run(tree(which), 0, i, 0, 400), THROWN);
+            }
+            for (int i = 0; i < 70; i++) {
+                due("run", x.run(tree(which), 1, i, 0, 3), SPENT);
+            }
+            due("run", x.run(tree(which), 0, 6, 2, 400), RETURNED);
+            due("returned", x.ran(which, 1), 9);
+        });
         for (int a : EXTREMES) {
             gives("method{return -v0;}", a, 0, -a);
             for (int b : EXTREMES) {
@@ -350,6 +362,12 @@ public final class RunBoundariesTest extends Sentences {
                 due("element", x.ran(which, 1), 0);
             }
         });
+        each(in("loop 198{r0=row 8;}return size r0;"), (x, which) -> {
+            for (int i = 0; i < 5; i++) {
+                due("run", x.run(tree(which), 0, 0, 0, 400), RETURNED);
+                due("the last array", x.ran(which, 1), 8);
+            }
+        });
         // As many arrays as there may be in a run.
         gives("loop 99{r0=row 8;r0[7]=v2;v2=r0[7]+1;}return v2;", 99);
         gives("method{" + "call m1(0,0);".repeat(5) + "return 5;}method{" + "r1=row 8;".repeat(74) + "}", 0, 0, 5);
@@ -387,6 +405,15 @@ public final class RunBoundariesTest extends Sentences {
             gives(text, MOST, 33, THROWS - 3);
         }
         gives("method{r0=row 8;r0[0]=v0;r0[7]=v1;return r0[0]/2-r0[7]/2;}", MOST, LEAST, MOST / 2 - LEAST / 2);
+        for (int r = 0; r < 3; r++) {
+            int place = r == 0 ? 1 : r == 1 ? 10 : 100;
+            String three = "r0=row 2;r1=row 3;r2=row 4;r" + r + "[1]=7;";
+            gives(three + "return r0[1]+10*r1[1]+100*r2[1];", 7 * place);
+            gives(three + "v4=1;v5=2;r" + r + "[1]=8;return r0[1]+10*r1[1]+100*r2[1];", 8 * place);
+            gives(three + "return size r" + r + ";", 2 + r);
+            gives(three + "r" + r + "[" + (2 + r) + "]=1;", THROWS - 3);
+            gives(three + "r" + r + "=none;r" + r + "[0]=1;", THROWS - 4);
+        }
         gives("r0=row 2;r0[0]=1;guard{r0[0]=1/0;}catch k2{}return r0[0];", 1);
         gives("r0=row 3;r0[r0[0]]=r0[1]+5;return r0[0];", 5);
     }
